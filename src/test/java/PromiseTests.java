@@ -158,9 +158,11 @@ public final class PromiseTests {
         for (int hour = -24; hour < 24; hour++) {
             gives("tide at " + hour, x, 2, hour, tides[(hour + 24) % 12]);
         }
-        x.moon(7);
-        gives("tide of the largest hour", x, 2, MAX, tides[(int) (7L * MAX % 12)]);
-        gives("tide of the least hour", x, 2, MIN, tides[(int) (7L * MIN % 12 + 12) % 12]);
+        for (int moon = 0; moon < 12; moon++) {
+            x.moon(moon);
+            gives("tide of the largest hour, moon " + moon, x, 2, MAX, tides[(int) ((long) moon * MAX % 12)]);
+            gives("tide of the least hour, moon " + moon, x, 2, MIN, tides[(int) ((long) moon * MIN % 12 + 12) % 12]);
+        }
         gives("hour", x, 3, MIN, MIN);
         steps("one rule", x, 1);
     }
@@ -183,14 +185,16 @@ public final class PromiseTests {
         gives("most, other one", x, most, 20, 20);
         steps("most", x, 3);
         int[] kinds = {SUM, LESS, LEAST, MOST};
-        int counter = made(x, COUNTED, 0);
+        int counter = made(x, COUNTED, 1);
         int read = made(x, COUNT, counter);
         for (int i = 0; i < kinds.length; i++) {
             int ahead = made(x, kinds[i], counter, read);
             int behind = made(x, kinds[i], read, counter);
             long c = 2 * i + 1;
-            gives("a ahead of b, kind " + kinds[i], x, ahead, 0, join(kinds[i], 9, c));
-            gives("count ahead, kind " + kinds[i], x, behind, 0, join(kinds[i], c, 9));
+            // The counter must be what LEAST and MOST give, or their order would not show.
+            int hour = kinds[i] == MOST ? -90 : 90;
+            gives("a ahead of b, kind " + kinds[i], x, ahead, hour, join(kinds[i], hour, c));
+            gives("count ahead, kind " + kinds[i], x, behind, hour, join(kinds[i], c, hour));
             steps("both, kind " + kinds[i], x, 4);
         }
     }
