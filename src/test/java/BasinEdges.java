@@ -89,7 +89,10 @@ public final class BasinEdges extends Checks {
 
     private static void ninthBasin() {
         refused("ninth", ROOM, Checks::fullWorks, x -> x.basin(0));
-        refused("ninth, again", ROOM, Checks::fullWorks, x -> Math.min(x.basin(0), x.basin(FULL)));
+        refused("tenth", ROOM, Checks::fullWorks, x -> {
+            x.basin(0);
+            return x.basin(FULL);
+        });
     }
 
     private static void ninthBasinOutside() {

@@ -17,7 +17,10 @@ public final class RunEdges extends Checks {
 
     private static void ninthSluice() {
         refused("ninth", ROOM, Checks::fullWorks, x -> x.sluice(0, 1, 0));
-        refused("ninth, again", ROOM, Checks::fullWorks, x -> Math.min(x.sluice(0, 1, 0), x.sluice(1, 0, 0)));
+        refused("tenth", ROOM, Checks::fullWorks, x -> {
+            x.sluice(0, 1, 0);
+            return x.sluice(1, 0, 0);
+        });
     }
 
     private static void sluiceOfNoBasin() {

@@ -123,18 +123,25 @@ public abstract class Checks {
         return x;
     }
 
-    /** All that can be read, and then what calls that change something answer. */
+    /** All that can be read, what askings and the works answer, and then calls that make something new. */
     protected static String answersOf(SluiceRules x) {
         StringBuilder text = new StringBuilder();
         read(x, text);
+        askAndRun(x, text);
         text.append(" | ").append(x.basin(9)).append(' ').append(x.moon(3)).append(' ').append(made(x, HOUR));
         text.append(' ').append(x.sluice(0, 1, 3)).append(' ').append(x.sluice(1, 2, 0));
+        askAndRun(x, text);
+        return text.toString();
+    }
+
+    private static void askAndRun(SluiceRules x, StringBuilder text) {
+        text.append(" | ");
         for (int rule = 0; rule < 9; rule++) {
             text.append(' ').append(x.ask(rule, 2)).append(' ').append(x.given());
         }
+        text.append(' ').append(x.ask(x.count(1) - 1, 2)).append(' ').append(x.given());
         text.append(' ').append(x.run(1, 2)).append(" | ");
         read(x, text);
-        return text.toString();
     }
 
     private static void read(SluiceRules x, StringBuilder text) {
