@@ -8,7 +8,11 @@ import java.util.Random;
  * its rules are functions, its failures are thrown. The seeds are fixed, so every run is the same.
  */
 public final class ModelTest {
-    private static final int RUNS = 800, CALLS = 512;
+    private static final int RUNS = 3000;
+    /** The document promises nothing of an object beyond these, so no run goes further. */
+    private static final int CALLS = 512;
+    /** So many calls of each run are kept for reading all that there is at its end. */
+    private static final int READINGS = 75;
 
     private interface Rule {
         long at(int hour);
@@ -269,6 +273,7 @@ public final class ModelTest {
         private final SluiceRules real = new SluiceRules();
         private final Model model = new Model();
         private String call = "";
+        private int calls = 0;
 
         private Mixer(long seed) {
             random = new Random(seed);
@@ -328,6 +333,7 @@ public final class ModelTest {
         }
 
         private boolean same(String text, long got, long want) {
+            calls++;
             call = text + " answered " + got + ", due is " + want;
             return got == want;
         }
@@ -369,35 +375,77 @@ public final class ModelTest {
             }
         }
 
+        private boolean sameGiven() {
+            return same("given", real.given(), model.given);
+        }
+
+        private boolean sameTold(int what) {
+            return same("told " + what, real.told(what), Model.within(what, 0, 2) ? model.told[what] : -101);
+        }
+
+        private boolean sameLevel(int basin) {
+            return same("level " + basin, real.level(basin), model.basin(basin) ? model.levels.get(basin) : -101);
+        }
+
+        private boolean sameCounted(int rule) {
+            boolean counts = model.rule(rule) && model.counters.get(rule) != null;
+            return same("counted " + rule, real.counted(rule), counts ? model.counters.get(rule)[0] : -101);
+        }
+
+        private boolean sameCount(int what) {
+            return same("count " + what, real.count(what), model.count(what));
+        }
+
+        private boolean reads() {
+            switch (random.nextInt(6)) {
+                case 0:
+                    return sameGiven();
+                case 1:
+                    return sameTold(upTo(3));
+                case 2:
+                    return sameLevel(upTo(model.levels.size()));
+                case 3:
+                    return sameCounted(upTo(model.rules.size()));
+                case 4:
+                    return sameCount(3);
+                default:
+                    return sameCount(upTo(17));
+            }
+        }
+
         private boolean stands() {
-            boolean fine = same("given", real.given(), model.given);
+            boolean fine = sameGiven();
             for (int i = 0; fine && i < 3; i++) {
-                fine = same("told " + i, real.told(i), model.told[i]);
+                fine = sameTold(i);
             }
             for (int i = -1; fine && i < 9; i++) {
-                fine = same("level " + i, real.level(i), model.basin(i) ? model.levels.get(i) : -101);
+                fine = sameLevel(i);
             }
             for (int i = -1; fine && i < 41; i++) {
-                boolean counts = model.rule(i) && model.counters.get(i) != null;
-                fine = same("counted " + i, real.counted(i), counts ? model.counters.get(i)[0] : -101);
+                fine = sameCounted(i);
             }
             for (int i = -1; fine && i < 18; i++) {
-                fine = same("count " + i, real.count(i), model.count(i));
+                fine = sameCount(i);
             }
             return fine;
+        }
+
+        private boolean holds() {
+            while (calls + 2 <= CALLS - READINGS) {
+                if (!goes() || !reads()) {
+                    return false;
+                }
+            }
+            return stands();
         }
     }
 
     public static void main(String[] args) {
         for (int run = 0; run < RUNS; run++) {
             Mixer mixer = new Mixer(run);
-            for (int i = 0; i < CALLS; i++) {
-                boolean fine = mixer.goes();
-                String changing = mixer.call;
-                if (!fine || !mixer.stands()) {
-                    System.out.println("seed " + run + ", call " + i + ": " + changing + "; " + mixer.call);
-                    System.exit(1);
-                }
+            if (!mixer.holds() || mixer.calls > CALLS) {
+                System.out.println("seed " + run + ", call " + mixer.calls + ": " + mixer.call);
+                System.exit(1);
             }
         }
         System.out.println("all answers are as the model's");
